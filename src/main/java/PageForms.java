@@ -270,7 +270,6 @@ public final class PageForms {
         // and nothing fits below it.
         private void putFirst(int howMany, int height, int gap) {
             page = NONE;
-            top = 0;
             int bottom = 0;
             for (int i = 0; i < howMany && i < MAX_BOXES; i++) {
                 if (page != NONE && bottom + gap + heights[i] <= height) {
@@ -441,6 +440,9 @@ public final class PageForms {
         }
 
         private int mend() {
+            if (count == 0) {
+                return NONE;
+            }
             int oddColumns = 0;
             int oddRows = 0;
             int oddRow = 0;
@@ -450,9 +452,6 @@ public final class PageForms {
                     oddRows++;
                     oddRow = y;
                 }
-            }
-            if (count == 0) {
-                return NONE;
             }
             if (oddRows == 0 && oddColumns == 0) {
                 return 0;

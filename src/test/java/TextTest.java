@@ -85,7 +85,10 @@ public final class TextTest {
         CHECK.due("unit 201", forms.unit(32), false);
         dueBreak(forms, "two words of 99", 100, 2, 0, 1);
         forms.clear();
-        CHECK.due("unit behind clear", forms.unit(120), true);
+        for (int i = 0; i < 200; i++) {
+            CHECK.due("unit " + i + " behind clear", forms.unit(32), true);
+        }
+        CHECK.due("unit 200 behind clear", forms.unit(32), false);
 
         PageForms blanks = new PageForms();
         for (int i = 0; i < 200; i++) {
