@@ -14,8 +14,11 @@ public final class FaceTest {
         255, 256, 999, 1000, 1001, 65536, Integer.MAX_VALUE - 1, Integer.MAX_VALUE};
 
     public static void main(String[] args) throws ReflectiveOperationException {
+        CHECK.by("The public face");
         faceIsTheDocuments();
+        CHECK.by("1: A new object");
         objectsDoNotShareTheirState();
+        CHECK.by("Rule 7: No call may ever throw by itself");
         for (int seed = 0; seed < 400; seed++) {
             noCallThrows(new Random(seed));
         }
@@ -66,6 +69,7 @@ public final class FaceTest {
         Method[] methods = PageForms.class.getMethods();
         java.util.Arrays.sort(methods, java.util.Comparator.comparing(Method::toString));
         boolean rarelyEmpties = random.nextBoolean();
+        // More than the 512 calls of the document: later answers are free, but throwing is not.
         for (int call = 0; call < 2000; call++) {
             Method method = methods[random.nextInt(methods.length)];
             boolean empties = method.getReturnType() == void.class;
