@@ -129,7 +129,7 @@ public final class PageForms {
         }
 
         private void appendLetter() {
-            if (inWord) {
+            if (inWord && words > 0) {
                 lengths[words - 1]++;
             } else if (words < MAX_WORDS) {
                 lengths[words] = 1;

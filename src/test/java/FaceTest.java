@@ -2,8 +2,11 @@ import java.lang.reflect.Constructor;
 import java.lang.reflect.Field;
 import java.lang.reflect.Method;
 import java.lang.reflect.Modifier;
+import java.util.ArrayList;
+import java.util.List;
 import java.util.Random;
 import java.util.Set;
+import java.util.StringJoiner;
 import java.util.TreeSet;
 
 /** The document's public face, and that no call ever throws, whatever it is given. */
@@ -16,6 +19,10 @@ public final class FaceTest {
     public static void main(String[] args) throws ReflectiveOperationException {
         CHECK.by("The public face");
         faceIsTheDocuments();
+        CHECK.by("Rule 1: no other public, protected or package-visible member");
+        nothingElseIsSeen();
+        CHECK.by("Rule 5: Static fields are final; no other static state");
+        noStaticStateIsKept();
         CHECK.by("1: A new object");
         objectsDoNotShareTheirState();
         CHECK.by("Rule 7: No call may ever throw by itself");
@@ -26,27 +33,74 @@ public final class FaceTest {
     }
 
     private static void faceIsTheDocuments() {
-        Set<String> due = new TreeSet<>(Set.of("boolean unit 1", "int broken 1", "int line 1",
-            "int rest 0", "void clear 0", "int box 1", "int pages 2", "int put 4"));
-        due.addAll(Set.of("boolean grid 2", "boolean cage 2", "int lines 0", "int drawn 2",
-            "boolean code 1", "int rows 0", "boolean dark 2", "boolean spoil 2", "int read 0"));
-        due.addAll(Set.of("int byteAt 1", "void wipe 0"));
+        Set<String> due = new TreeSet<>(Set.of("boolean unit(int)", "int broken(int)",
+            "int line(int)", "int rest()", "void clear()", "int box(int)", "int pages(int, int)",
+            "int put(int, int, int, int)", "boolean grid(int, int)", "boolean cage(int, int)"));
+        due.addAll(Set.of("int lines()", "int drawn(int, int)", "boolean code(int)", "int rows()",
+            "boolean dark(int, int)", "boolean spoil(int, int)", "int read()", "int byteAt(int)",
+            "void wipe()"));
         Set<String> got = new TreeSet<>();
         for (Method method : PageForms.class.getDeclaredMethods()) {
             if (!Modifier.isPrivate(method.getModifiers())) {
-                CHECK.due(method + " is public", Modifier.isPublic(method.getModifiers()), true);
-                got.add(method.getReturnType() + " " + method.getName() + " "
-                    + method.getParameterCount());
+                CHECK.due(method + " is public and no more", method.getModifiers(), Modifier.PUBLIC);
+                CHECK.due(method + " declares to throw", method.getExceptionTypes().length, 0);
+                got.add(signatureOf(method));
             }
         }
-        CHECK.due("the methods " + got, got.equals(due), true);
-        for (Field field : PageForms.class.getDeclaredFields()) {
-            CHECK.due(field + " is private", Modifier.isPrivate(field.getModifiers()), true);
-        }
+        CHECK.due("the methods", got.toString(), due.toString());
         Constructor<?>[] constructors = PageForms.class.getDeclaredConstructors();
         CHECK.due("one constructor", constructors.length, 1);
         CHECK.due("without parameters", constructors[0].getParameterCount(), 0);
-        CHECK.due("final", Modifier.isFinal(PageForms.class.getModifiers()), true);
+        CHECK.due("public", constructors[0].getModifiers(), Modifier.PUBLIC);
+        CHECK.due("public and final", PageForms.class.getModifiers(),
+            Modifier.PUBLIC | Modifier.FINAL);
+        CHECK.due("without a package", PageForms.class.getPackageName(), "");
+    }
+
+    private static String signatureOf(Method method) {
+        StringJoiner types = new StringJoiner(", ", "(", ")");
+        for (Class<?> type : method.getParameterTypes()) {
+            types.add(type.getName());
+        }
+        return method.getReturnType() + " " + method.getName() + types;
+    }
+
+    private static void nothingElseIsSeen() {
+        Set<String> publicNames = new TreeSet<>();
+        for (Method method : PageForms.class.getMethods()) {
+            publicNames.add(method.getName());
+        }
+        List<Class<?>> all = new ArrayList<>(List.of(PageForms.class.getDeclaredClasses()));
+        for (Class<?> inside : all) {
+            CHECK.due(inside + " is static", Modifier.isStatic(inside.getModifiers()), true);
+            CHECK.due(inside + " is seen from outside",
+                Modifier.isPublic(inside.getModifiers())
+                    || Modifier.isProtected(inside.getModifiers()), false);
+        }
+        all.add(PageForms.class);
+        for (Class<?> each : all) {
+            for (Field field : each.getDeclaredFields()) {
+                CHECK.due(field + " is private", Modifier.isPrivate(field.getModifiers()), true);
+            }
+            for (Method method : each.getDeclaredMethods()) {
+                boolean hidden = Modifier.isPrivate(method.getModifiers());
+                CHECK.due(method + " is private and bears a public one's name",
+                    hidden && publicNames.contains(method.getName()), false);
+            }
+        }
+    }
+
+    private static void noStaticStateIsKept() {
+        List<Class<?>> all = new ArrayList<>(List.of(PageForms.class.getDeclaredClasses()));
+        all.add(PageForms.class);
+        for (Class<?> each : all) {
+            for (Field field : each.getDeclaredFields()) {
+                if (Modifier.isStatic(field.getModifiers())) {
+                    CHECK.due(field + " is final", Modifier.isFinal(field.getModifiers()), true);
+                    CHECK.due(field + " is a number", field.getType().isPrimitive(), true);
+                }
+            }
+        }
     }
 
     private static void objectsDoNotShareTheirState() {
